@@ -1,0 +1,96 @@
+/** Short ways to say what the tests say often. */
+final class Talk {
+    static final int FIN = 1;
+    static final int SYN = 2;
+    static final int RST = 4;
+    static final int ACK = 16;
+    static final int CLIENT_HOST = 10 << 24 | 1;
+    static final int SERVER_HOST = 10 << 24 | 1 << 8 | 1;
+
+    private Talk() {
+    }
+
+    /** Up to eight characters as the lowest bytes of a number, the first one highest. */
+    static long bytes(String characters) {
+        long number = 0;
+        for (int i = 0; i < characters.length(); i++) {
+            number = number << 8 | characters.charAt(i);
+        }
+        return number;
+    }
+
+    static int craft(StreamWatch x, int c, int way, int sequence, int flags, String data) {
+        return x.craft(c, way, sequence, flags, data.length(), bytes(data));
+    }
+
+    static int send(StreamWatch x, int c, int way, int sequence, int flags, String data) {
+        craft(x, c, way, sequence, flags, data);
+        return x.watch();
+    }
+
+    /** A watch with a flow of client 0, whose stream 0 has NEXT = 1. */
+    static StreamWatch opened(int last) {
+        StreamWatch x = new StreamWatch(last);
+        Due.is("watch of SYN", send(x, 0, 0, 0, SYN, ""), 0);
+        return x;
+    }
+
+    static int option(StreamWatch x, String content, int marks, int least, int span) {
+        return x.option(content.length(), bytes(content), marks, least, span);
+    }
+
+    static void putAll(StreamWatch x, String characters) {
+        for (int i = 0; i < characters.length(); i++) {
+            Due.is("put", x.put(1, characters.charAt(i)), true);
+        }
+    }
+
+    /** A whole packet with headers of so many words, sealed; what is behind it does not count. */
+    static void write(StreamWatch x, int ipWords, int tcpWords, int sequence, int flags,
+            String data, String behind) {
+        int length = 4 * ipWords + 4 * tcpWords + data.length();
+        x.wipe();
+        x.put(4, (64L + ipWords) << 24 | length);
+        x.put(8, 0x1234_4000_4006_0000L);
+        x.put(8, (long) CLIENT_HOST << 32 | SERVER_HOST);
+        for (int i = 5; i < ipWords; i++) {
+            x.put(4, 0x01020304);
+        }
+        x.put(8, 1000L << 48 | 80L << 32 | (sequence & 0xFFFFFFFFL));
+        x.put(8, 0x0000_0007_0000_0100L | (long) tcpWords << 28 | (long) flags << 16);
+        x.put(4, 0x0000_0009);
+        for (int i = 5; i < tcpWords; i++) {
+            x.put(4, 0x05060708);
+        }
+        putAll(x, data);
+        putAll(x, behind);
+        Due.is("seal", x.seal(), true);
+    }
+
+    static String textOf(StreamWatch x, int f, int way) {
+        StringBuilder all = new StringBuilder();
+        for (int k = 0; k < x.stream(f, way, 0); k++) {
+            all.append((char) x.text(f, way, k));
+        }
+        return all.toString();
+    }
+
+    static String wireOf(StreamWatch x) {
+        StringBuilder all = new StringBuilder();
+        for (int k = 0; k < x.wire(-1); k++) {
+            all.append(x.wire(k)).append(' ');
+        }
+        return all.toString().trim();
+    }
+
+    /** All that can be asked of the streams, as one line. */
+    static String streamOf(StreamWatch x, int f, int way) {
+        return x.stream(f, way, 0) + " " + x.stream(f, way, 1) + " " + x.stream(f, way, 2) + " "
+                + x.stream(f, way, 3);
+    }
+
+    /** The k-th latest alert as one line: rule, client's port, way, bytes of the text. */
+    static String alertOf(StreamWatch x, int k) {
+        return x.alert(k, 0) + " " + x.alert(k, 1) + " " + x.alert(k, 2) + " " + x.alert(k, 3);
+    }
+}
