@@ -1,0 +1,23 @@
+/** Promise 7: wire. */
+public final class Promise07Test {
+    public static void main(String[] args) {
+        StreamWatch x = new StreamWatch(0);
+        Due.is("wire(-1)", x.wire(-1), 0);
+        Due.is("wire(0)", x.wire(0), -1);
+        x.put(2, 0x00FF);
+        Due.is("wire(-1)", x.wire(-1), 2);
+        Due.is("wire(0)", x.wire(0), 0);
+        Due.is("wire(1)", x.wire(1), 255);
+        Due.is("wire(2)", x.wire(2), -1);
+        Due.is("wire(-2)", x.wire(-2), -1);
+        Due.is("wire(MIN)", x.wire(Integer.MIN_VALUE), -1);
+        Due.is("wire(MAX)", x.wire(Integer.MAX_VALUE), -1);
+        x.craft(0, 0, 0, 2, 8, 0);
+        Due.is("wire(-1)", x.wire(-1), 48);
+        x.watch();
+        Due.is("wire(-1) after watch", x.wire(-1), 48);
+        x.craft(0, 0, 0, 2, 0, 0);
+        Due.is("wire(40) of a shorter one", x.wire(40), -1);
+        Due.end();
+    }
+}
