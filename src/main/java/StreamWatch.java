@@ -433,7 +433,7 @@ public final class StreamWatch {
         }
     }
 
-    /** The four places for flows; a place is used again and again, whether its flow lives or not. */
+    /** The four places for flows; a place is used again once its flow has gone. */
     private static final class FlowTable {
         private static final int PLACES = 4;
 

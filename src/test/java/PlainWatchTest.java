@@ -170,8 +170,8 @@ public final class PlainWatchTest {
     }
 
     private int longPacket() {
-        int ipWords = 5 + random.nextInt(3);
-        int tcpWords = 5 + random.nextInt(4);
+        int ipWords = random.nextInt(10) == 0 ? near(5, 7) : 5 + random.nextInt(3);
+        int tcpWords = random.nextInt(10) == 0 ? near(5, 8) : 5 + random.nextInt(4);
         int n = random.nextInt(100 - 4 * ipWords - 4 * tcpWords + 1);
         int more = random.nextInt(20) == 0 ? near(0, 12) : 0;
         boolean toSelf = random.nextInt(8) == 0;

@@ -76,6 +76,14 @@ public final class Promise06Test {
         refused("TCP header of 4 words", altered(32, 0x50 ^ 0x40));
         refused("TCP header of 9 words", altered(32, 0x50 ^ 0x90));
         refused("TCP header beyond LENGTH", altered(32, 0x50 ^ 0x80));
+        StreamWatch x = new StreamWatch(0);
+        Talk.write(x, 5, 5, 8, Talk.SYN, "0123456789".repeat(6), "");
+        x.alter(32, 0x50 ^ 0x90);
+        refused("TCP header of 9 words that is there", x);
+        x.alter(32, 0x90 ^ 0xF0);
+        refused("TCP header of 15 words that is there", x);
+        x.alter(32, 0xF0 ^ 0x80);
+        Due.is("seal: TCP header of 8 words", x.seal(), true);
         Due.is("seal: TCP header up to LENGTH", altered(32, 0x50 ^ 0x70).seal(), true);
         Due.is("seal: LENGTH is 40", altered(3, 48 ^ 40).seal(), true);
         Due.is("seal: not to be parted", altered(6, 0xC0).seal(), true);

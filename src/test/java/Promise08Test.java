@@ -81,6 +81,10 @@ public final class Promise08Test {
         swapped("TCP header of 4 words", 32, 0x10, 34, -8);
         swapped("TCP header of 9 words", 32, 0xC0, 34, -8);
         swapped("TCP header of 1 word", 32, 0x40, 34, -8);
+        StreamWatch w = new StreamWatch(0);
+        Talk.write(w, 5, 8, 100, SYN, "01234567", "");
+        w.alter(32, 0x80 ^ 0x90);
+        Due.is("TCP header of 9 words that is there", w.watch(), -8);
         StreamWatch x = new StreamWatch(0);
         x.craft(0, 0, 100, SYN, 0, 0);
         x.alter(32, 0x50 ^ 0x60);

@@ -98,6 +98,8 @@ public final class Promise10Test {
         Due.is("least below 0", raisedAt("xab", opt("ab", 0, -1, 4)), 3);
         Due.is("least below 0, span too small", raisedAt("xab", opt("ab", 0, -2, 4)), 0);
         Due.is("absolute behind another", raisedAt("cdab", opt("ab", 0, 0, 0), opt("cd", 0, 0, 2)), 4);
+        Due.is("absolute without case", raisedAt("CDab", opt("ab", 0, 0, 0),
+                opt("cd", NO_CASE, 0, 2)), 4);
         Due.is("least 80", raisedAt("a".repeat(80), opt("a", 0, 80, 0)), 0);
         Due.is("least 79", raisedAt("a".repeat(80), opt("a", 0, 79, 0)), 80);
     }
