@@ -12,9 +12,36 @@ public final class Promise05Test {
             Due.is("put(" + n + ", 1)", x.put(n, 1), false);
         }
         Due.is("wire(-1)", x.wire(-1), 12);
+        everyNumberOfBytes();
         upToAHundred();
         behindACraft();
         Due.end();
+    }
+
+    private static StreamWatch withZeros(int size) {
+        StreamWatch x = new StreamWatch(0);
+        for (int i = 0; i < size; i++) {
+            x.put(1, 0);
+        }
+        return x;
+    }
+
+    /** "false if n is not 1 .. 8 or there would be more than 100" */
+    private static void everyNumberOfBytes() {
+        for (int n = 1; n <= 8; n++) {
+            StreamWatch x = withZeros(100 - n);
+            Due.is("put(" + n + ", ..) up to 100", x.put(n, 0xA1A2A3A4A5A6A7A8L), true);
+            Due.is("wire(-1)", x.wire(-1), 100);
+            Due.is("the highest first", x.wire(100 - n), 0xA9 - n);
+            Due.is("the lowest last", x.wire(99), 0xA8);
+            StreamWatch y = withZeros(101 - n);
+            Due.is("put(" + n + ", ..) up to 101", y.put(n, -1L), false);
+            Due.is("wire(-1)", y.wire(-1), 101 - n);
+            Due.is("nothing is added", y.wire(101 - n), -1);
+            Due.is("the last is as it was", y.wire(100 - n), 0);
+        }
+        Due.is("put(0, ..) on a full wire", withZeros(100).put(0, 0), false);
+        Due.is("put(-1, ..) on a full wire", withZeros(100).put(-1, 0), false);
     }
 
     private static void upToAHundred() {

@@ -5,6 +5,8 @@ public final class Promise06Test {
         makesLongHeadersRight();
         takesAnOddLastByteWithAZero();
         refuses();
+        refusesWhatIsTooShort();
+        leavesTheRest();
         sumThatIsFull();
         Due.end();
     }
@@ -87,6 +89,41 @@ public final class Promise06Test {
         Due.is("seal: TCP header up to LENGTH", altered(32, 0x50 ^ 0x70).seal(), true);
         Due.is("seal: LENGTH is 40", altered(3, 48 ^ 40).seal(), true);
         Due.is("seal: not to be parted", altered(6, 0xC0).seal(), true);
+    }
+
+    private static void refusesWhatIsTooShort() {
+        for (int size = 0; size < 40; size++) {
+            StreamWatch x = new StreamWatch(0);
+            Raw.plain("").set(10, 1).putOn(x, size);
+            refused(size + " bytes", x);
+        }
+        for (int ipWords = 5; ipWords <= 7; ipWords++) {
+            int least = 4 * ipWords + 20;
+            StreamWatch x = new StreamWatch(0);
+            new Raw(ipWords, 5, "", "xyz").set(10, 1).setLength(least - 1).putOn(x);
+            refused("LENGTH " + (least - 1), x);
+            x.alter(3, least - 1 ^ least);
+            Due.is("seal: LENGTH " + least, x.seal(), true);
+            Due.is("watch()", x.watch(), 0);
+        }
+    }
+
+    /** Of a wire of 100 bytes, those of the SUMs alone become others. */
+    private static void leavesTheRest() {
+        StreamWatch x = new StreamWatch(0);
+        new Raw(7, 8, "0123456789", "behind").setTcp(13, 0).flip(10, 255).putOn(x);
+        x.alter(11, 255);
+        x.alter(28 + 16, 255);
+        x.alter(28 + 17, 255);
+        String[] before = Talk.wireOf(x).split(" ");
+        Due.is("seal()", x.seal(), true);
+        String[] after = Talk.wireOf(x).split(" ");
+        Due.is("bytes of the wire", after.length, before.length);
+        for (int k = 0; k < before.length; k++) {
+            boolean ofTheSums = k == 10 || k == 11 || k == 44 || k == 45;
+            Due.is("byte " + k + " stays", after[k].equals(before[k]), !ofTheSums);
+        }
+        Due.is("watch()", x.watch(), -10);
     }
 
     /** The rest of the header adds up to 65535 already, so that the bytes become 0. */

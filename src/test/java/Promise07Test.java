@@ -18,6 +18,32 @@ public final class Promise07Test {
         Due.is("wire(-1) after watch", x.wire(-1), 48);
         x.craft(0, 0, 0, 2, 0, 0);
         Due.is("wire(40) of a shorter one", x.wire(40), -1);
+        aHundred();
+        everyByte();
         Due.end();
+    }
+
+    private static void aHundred() {
+        StreamWatch x = new StreamWatch(0);
+        for (int k = 0; k < 100; k++) {
+            x.put(1, k + 100);
+        }
+        Due.is("wire(-1)", x.wire(-1), 100);
+        for (int k = 0; k < 100; k++) {
+            Due.is("wire(" + k + ")", x.wire(k), k + 100);
+        }
+        Due.is("wire(100)", x.wire(100), -1);
+        Due.is("wire(-2)", x.wire(-2), -1);
+    }
+
+    /** "a row of at most 100 bytes 0 .. 255" */
+    private static void everyByte() {
+        for (int value = 0; value < 256; value++) {
+            StreamWatch x = new StreamWatch(0);
+            x.put(1, value);
+            Due.is("wire(0)", x.wire(0), value);
+            x.alter(0, 255);
+            Due.is("wire(0) altered", x.wire(0), 255 - value);
+        }
     }
 }

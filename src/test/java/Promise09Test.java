@@ -1,26 +1,46 @@
 /** Promise 9: rule. */
 public final class Promise09Test {
     public static void main(String[] args) {
-        numbersAndLimits();
+        edgesOfArguments();
+        atMostSix();
         holdsNowhereWithoutOptions();
         waysAndPorts();
         Due.end();
     }
 
-    private static void numbersAndLimits() {
-        StreamWatch x = new StreamWatch(0);
-        int[][] wrong = {{-1, 0}, {3, 0}, {0, -1}, {0, 65536}, {Integer.MIN_VALUE, 0},
-            {0, Integer.MAX_VALUE}};
-        for (int[] w : wrong) {
+    private static final int[][] WRONG = {{-1, 0}, {3, 0}, {0, -1}, {0, 65536}, {-1, -1}, {3, 65536},
+        {Integer.MIN_VALUE, 0}, {Integer.MAX_VALUE, 0}, {0, Integer.MIN_VALUE}, {0, Integer.MAX_VALUE},
+        {256, 0}, {0, 65536 + 80}};
+
+    private static void areRefused(StreamWatch x) {
+        for (int[] w : WRONG) {
             Due.isThrown("rule(" + w[0] + ", " + w[1] + ")", IllegalArgumentException.class,
                     () -> x.rule(w[0], w[1]));
         }
-        int[][] right = {{0, 0}, {1, 65535}, {2, 80}, {0, 1}, {1, 0}, {2, 0}};
+    }
+
+    /** "if way is not 0 .. 2 or port not 0 .. 65535" */
+    private static void edgesOfArguments() {
+        int[] ports = {0, 1, 65534, 65535};
+        for (int way = 0; way <= 2; way++) {
+            for (int port : ports) {
+                StreamWatch x = new StreamWatch(0);
+                areRefused(x);
+                Due.is("rule(" + way + ", " + port + ")", x.rule(way, port), 0);
+            }
+        }
+    }
+
+    /** "IllegalStateException if there are 6" */
+    private static void atMostSix() {
+        StreamWatch x = new StreamWatch(0);
         for (int r = 0; r < 6; r++) {
-            Due.is("rule", x.rule(right[r][0], right[r][1]), r);
+            Due.is("rule", x.rule(r % 3, 80), r);
         }
         Due.isThrown("a seventh", IllegalStateException.class, () -> x.rule(0, 0));
-        Due.isThrown("a wrong seventh", IllegalArgumentException.class, () -> x.rule(3, 0));
+        Due.isThrown("a seventh again", IllegalStateException.class, () -> x.rule(2, 65535));
+        // The document names IllegalArgumentException first; so it comes when both could.
+        areRefused(x);
         Due.is("option of the latest", Talk.option(x, "a", 0, 0, 0), 1);
     }
 

@@ -1,172 +1,142 @@
-/** Promise 10: option, and when a rule holds. */
+/** Promise 10: option. OptionsTest has what options mean. */
 public final class Promise10Test {
-    private static final int NO_CASE = 1;
-    private static final int NOT = 2;
-    private static final int RELATIVE = 4;
+    private static final int[] RIGHT = {1, 0, 0, 0};
 
     public static void main(String[] args) {
-        wrongInputs();
-        contents();
-        cases();
-        absolutePlaces();
-        relativePlaces();
-        nots();
-        choices();
-        bigTexts();
+        edgesOfArguments();
+        withoutRule();
+        atMostThree();
+        argumentBeforeState();
+        forTheLatestRule();
+        lowestBytesHighestFirst();
+        everyMark();
         optionsThatComeLater();
         Due.end();
     }
 
-    private static void wrongInputs() {
+    private static StreamWatch withRule() {
         StreamWatch x = new StreamWatch(0);
-        Due.isThrown("no rule", IllegalStateException.class, () -> x.option(1, 0, 0, 0, 0));
-        Due.isThrown("no rule, n 0", IllegalArgumentException.class, () -> x.option(0, 0, 0, 0, 0));
         x.rule(0, 0);
-        int[][] wrong = {{0, 0, 0, 0}, {7, 0, 0, 0}, {-1, 0, 0, 0}, {1, -1, 0, 0}, {1, 8, 0, 0},
-            {1, 0, -81, 0}, {1, 0, 81, 0}, {1, 0, 0, -1}, {1, 0, 0, 81},
-            {1, 0, Integer.MIN_VALUE, 0}, {1, 0, 0, Integer.MAX_VALUE}};
-        for (int[] w : wrong) {
-            Due.isThrown("option(" + w[0] + ", 0, " + w[1] + ", " + w[2] + ", " + w[3] + ")",
-                    IllegalArgumentException.class, () -> x.option(w[0], 0, w[1], w[2], w[3]));
+        return x;
+    }
+
+    private static int option(StreamWatch x, int[] a) {
+        return x.option(a[0], 97, a[1], a[2], a[3]);
+    }
+
+    private static void edges(String name, int argument, int least, int most) {
+        int[] inside = {least, least + 1, most - 1, most};
+        for (int value : inside) {
+            int[] a = RIGHT.clone();
+            a[argument] = value;
+            Due.is(name + " " + value, option(withRule(), a), 1);
         }
-        Due.is("option", x.option(6, -1, 7, -80, 80), 1);
-        Due.is("option", x.option(1, 0, 0, 80, 0), 2);
-        Due.is("option", x.option(1, 0, 0, 0, 0), 3);
-        Due.isThrown("a fourth", IllegalStateException.class, () -> x.option(1, 0, 0, 0, 0));
-        Due.isThrown("a wrong fourth", IllegalArgumentException.class,
-                () -> x.option(1, 0, 8, 0, 0));
+        int[] outside = {least - 1, most + 1, least - 100, most + 100, Integer.MIN_VALUE,
+            Integer.MAX_VALUE, least - 256, most + 256};
+        for (int value : outside) {
+            int[] a = RIGHT.clone();
+            a[argument] = value;
+            StreamWatch x = withRule();
+            Due.isThrown(name + " " + value, IllegalArgumentException.class, () -> option(x, a));
+            Due.is("the rule has none", option(x, RIGHT), 1);
+        }
+    }
+
+    /** "if n is not 1 .. 6, marks not 0 .. 7, least not -80 .. 80, or span not 0 .. 80" */
+    private static void edgesOfArguments() {
+        edges("n", 0, 1, 6);
+        edges("marks", 1, 0, 7);
+        edges("least", 2, -80, 80);
+        edges("span", 3, 0, 80);
+    }
+
+    /** "IllegalStateException if there is no rule" */
+    private static void withoutRule() {
+        StreamWatch x = new StreamWatch(0);
+        Due.isThrown("no rule", IllegalStateException.class, () -> option(x, RIGHT));
+        Due.is("rule", x.rule(0, 0), 0);
+        Due.is("a rule", option(x, RIGHT), 1);
+    }
+
+    /** "or it has 3" */
+    private static void atMostThree() {
+        StreamWatch x = withRule();
+        for (int i = 1; i <= 3; i++) {
+            Due.is("option", option(x, RIGHT), i);
+        }
+        Due.isThrown("a fourth", IllegalStateException.class, () -> option(x, RIGHT));
+        Due.isThrown("a fourth again", IllegalStateException.class, () -> option(x, RIGHT));
+        Due.is("rule", x.rule(0, 0), 1);
+        Due.is("option of the next rule", option(x, RIGHT), 1);
+    }
+
+    /** The document names IllegalArgumentException first; so it is what comes when both could. */
+    private static void argumentBeforeState() {
+        StreamWatch x = new StreamWatch(0);
+        int[][] wrong = {{0, 0, 0, 0}, {7, 0, 0, 0}, {1, -1, 0, 0}, {1, 8, 0, 0}, {1, 0, -81, 0},
+            {1, 0, 81, 0}, {1, 0, 0, -1}, {1, 0, 0, 81}};
+        for (int[] a : wrong) {
+            Due.isThrown("no rule", IllegalArgumentException.class, () -> option(x, a));
+        }
         x.rule(0, 0);
-        Due.is("option of the next rule", x.option(1, 0, 0, 0, 0), 1);
+        for (int i = 0; i < 3; i++) {
+            option(x, RIGHT);
+        }
+        for (int[] a : wrong) {
+            Due.isThrown("a fourth", IllegalArgumentException.class, () -> option(x, a));
+        }
     }
 
-    /** One option: content, marks, least, span. */
-    private record Opt(String content, int marks, int least, int span) {
-    }
-
-    private static Opt opt(String content, int marks, int least, int span) {
-        return new Opt(content, marks, least, span);
-    }
-
-    /** How many bytes the text had when the rule raised an alert, 0 if it raised none. */
-    private static int raisedAt(String text, Opt... options) {
+    /** "One more option for the latest rule: how many it has." */
+    private static void forTheLatestRule() {
         StreamWatch x = Talk.opened(0);
         x.rule(0, 0);
-        for (Opt one : options) {
-            Talk.option(x, one.content, one.marks, one.least, one.span);
-        }
-        for (int i = 0; i < text.length(); i += 8) {
-            String part = text.substring(i, Math.min(i + 8, text.length()));
-            Talk.send(x, 0, 0, 1 + i, Talk.ACK, part);
-        }
-        return x.alerts() == 0 ? 0 : x.alert(0, 3);
+        Talk.option(x, "a", 0, 0, 0);
+        x.rule(0, 0);
+        Due.is("first", Talk.option(x, "b", 0, 0, 0), 1);
+        Due.is("second", Talk.option(x, "c", 0, 0, 0), 2);
+        Due.is("rule 0 has one", Talk.send(x, 0, 0, 1, Talk.ACK, "a"), 1);
+        Due.is("rule 1 has two", Talk.send(x, 0, 0, 2, Talk.ACK, "b"), 0);
+        Due.is("rule 1 holds", Talk.send(x, 0, 0, 3, Talk.ACK, "c"), 1);
     }
 
-    private static void contents() {
+    /** "Its content is the n lowest bytes of bytes, the highest first" */
+    private static void lowestBytesHighestFirst() {
+        for (int n = 1; n <= 6; n++) {
+            StreamWatch x = Talk.opened(0);
+            x.rule(0, 0);
+            x.option(n, 0x6162636465666768L, 0, 0, n);
+            String content = "abcdefgh".substring(8 - n);
+            Due.is(n + " bytes", Talk.send(x, 0, 0, 1, Talk.ACK, content), 1);
+            Due.is("all of them", x.alert(0, 3), n);
+        }
         StreamWatch x = Talk.opened(0);
         x.rule(0, 0);
-        x.option(2, 0x7778796162L, 0, 0, 0);
-        Due.is("the lowest bytes", Talk.send(x, 0, 0, 1, Talk.ACK, "ab"), 1);
-        Due.is("one byte", raisedAt("xya", opt("a", 0, 0, 0)), 3);
-        Due.is("six bytes", raisedAt("abcdeabcdef", opt("abcdef", 0, 0, 0)), 11);
-        Due.is("not whole", raisedAt("abcdeabcde", opt("abcdef", 0, 0, 0)), 0);
-        Due.is("byte 0", raisedAt("a\0b", opt("\0", 0, 0, 0)), 2);
-        Due.is("byte 255", raisedAt("a\u00ffb", opt("\u00ffb", 0, 0, 0)), 3);
+        x.option(3, -1L, 0, 0, 0);
+        Due.is("bytes of 255", Talk.send(x, 0, 0, 1, Talk.ACK, "\u00ff\u00ff-"), 0);
+        Due.is("bytes of 255", Talk.send(x, 0, 0, 4, Talk.ACK, "\u00ff\u00ff\u00ff"), 1);
     }
 
-    private static void cases() {
-        Due.is("with case", raisedAt("GeT get", opt("get", 0, 0, 0)), 7);
-        Due.is("without case", raisedAt("GeT get", opt("get", NO_CASE, 0, 0)), 3);
-        Due.is("without case, great content", raisedAt("GeT get", opt("GET", NO_CASE, 0, 0)), 3);
-        Due.is("a and z", raisedAt("AZ", opt("az", NO_CASE, 0, 0)), 2);
-        String[][] others = {{"@", "`"}, {"[", "{"}, {"\u00c4", "\u00e4"}, {"1", "Q"}};
-        for (String[] pair : others) {
-            Due.is("no letters", raisedAt(pair[0], opt(pair[1], NO_CASE, 0, 0)), 0);
-            Due.is("no letters", raisedAt(pair[1], opt(pair[0], NO_CASE, 0, 0)), 0);
-            Due.is("the same", raisedAt(pair[1], opt(pair[1], NO_CASE, 0, 0)), 1);
+    /**
+     * "marks: 1 without CASE, + 2 with NOT, + 4 RELATIVE": b is asked for just at its base, which is
+     * the start of the text or, RELATIVE, behind the a.
+     */
+    private static void everyMark() {
+        String[] texts = {"ba", "Ba", ".ab", ".aB"};
+        int[][] holds = {{1, 0, 0, 0}, {1, 1, 0, 0}, {0, 1, 1, 1}, {0, 0, 1, 1},
+            {0, 0, 1, 0}, {0, 0, 1, 1}, {1, 1, 0, 1}, {1, 1, 0, 0}};
+        for (int marks = 0; marks < 8; marks++) {
+            for (int i = 0; i < texts.length; i++) {
+                StreamWatch x = Talk.opened(0);
+                String text = texts[i];
+                Talk.sendAll(x, 1, text);
+                x.rule(0, 0);
+                Talk.option(x, "a", 0, 0, 0);
+                Talk.option(x, "b", marks, 0, 1);
+                int got = Talk.send(x, 0, 0, 1 + text.length(), Talk.ACK, "-");
+                Due.is("marks " + marks + " on " + text, got, holds[marks][i]);
+            }
         }
-    }
-
-    private static void absolutePlaces() {
-        Due.is("least", raisedAt("abxab", opt("ab", 0, 1, 0)), 5);
-        Due.is("least is the place", raisedAt("xab", opt("ab", 0, 1, 0)), 3);
-        Due.is("span", raisedAt("xxab", opt("ab", 0, 0, 4)), 4);
-        Due.is("span too small", raisedAt("xxab", opt("ab", 0, 0, 3)), 0);
-        Due.is("span with least", raisedAt("xxab", opt("ab", 0, 2, 2)), 4);
-        Due.is("span with least", raisedAt("xxab", opt("ab", 0, 1, 3)), 4);
-        Due.is("span with least too small", raisedAt("xxab", opt("ab", 0, 1, 2)), 0);
-        Due.is("span less than the content", raisedAt("abab", opt("ab", 0, 0, 1)), 0);
-        Due.is("least below 0", raisedAt("xab", opt("ab", 0, -1, 4)), 3);
-        Due.is("least below 0, span too small", raisedAt("xab", opt("ab", 0, -2, 4)), 0);
-        Due.is("absolute behind another", raisedAt("cdab", opt("ab", 0, 0, 0), opt("cd", 0, 0, 2)), 4);
-        Due.is("absolute without case", raisedAt("CDab", opt("ab", 0, 0, 0),
-                opt("cd", NO_CASE, 0, 2)), 4);
-        Due.is("least 80", raisedAt("a".repeat(80), opt("a", 0, 80, 0)), 0);
-        Due.is("least 79", raisedAt("a".repeat(80), opt("a", 0, 79, 0)), 80);
-    }
-
-    private static void relativePlaces() {
-        Due.is("none before it", raisedAt("xab", opt("ab", RELATIVE, 1, 2)), 3);
-        Due.is("just behind", raisedAt("abcd", opt("ab", 0, 0, 0), opt("cd", RELATIVE, 0, 2)), 4);
-        Due.is("not just behind", raisedAt("abxcd", opt("ab", 0, 0, 0), opt("cd", RELATIVE, 0, 2)), 0);
-        Due.is("one between", raisedAt("abxcd", opt("ab", 0, 0, 0), opt("cd", RELATIVE, 1, 2)), 5);
-        Due.is("before it", raisedAt("cdab", opt("ab", 0, 0, 0), opt("cd", RELATIVE, 0, 0)), 0);
-        Due.is("before it, least -4", raisedAt("cdab", opt("ab", 0, 0, 0), opt("cd", RELATIVE, -4, 0)), 4);
-        Due.is("before it, least -3", raisedAt("cdab", opt("ab", 0, 0, 0), opt("cd", RELATIVE, -3, 0)), 0);
-        Due.is("over it", raisedAt("abc", opt("ab", 0, 0, 0), opt("bc", RELATIVE, -1, 2)), 3);
-        Due.is("behind a NOT", raisedAt("abcd", opt("ab", 0, 0, 0), opt("x", NOT, 0, 0),
-                opt("cd", RELATIVE, 0, 2)), 4);
-        Due.is("behind an absolute one", raisedAt("abcdef", opt("ab", 0, 0, 0), opt("ef", 0, 0, 0),
-                opt("cd", RELATIVE, -4, 2)), 6);
-        Due.is("the nearest one alone", raisedAt("abcdef", opt("ab", 0, 0, 0), opt("ef", 0, 0, 0),
-                opt("cd", RELATIVE, 0, 2)), 0);
-    }
-
-    private static void nots() {
-        Due.is("NOT alone", raisedAt("ab", opt("a", NOT, 0, 0)), 0);
-        Due.is("NOT alone", raisedAt("ba", opt("a", NOT, 0, 0)), 1);
-        Due.is("NOT within places", raisedAt("ab", opt("a", NOT, 1, 0)), 1);
-        Due.is("NOT without case", raisedAt("Ab", opt("a", NOT | NO_CASE, 0, 0)), 0);
-        Due.is("NOT with case", raisedAt("Ab", opt("a", NOT, 0, 0)), 1);
-        Due.is("NOT that cannot be", raisedAt("a", opt("aa", NOT, 0, 1)), 1);
-        Due.is("NOT relative, none before", raisedAt("za", opt("z", NOT | RELATIVE, 0, 1),
-                opt("a", 0, 0, 0)), 0);
-        Due.is("NOT before", raisedAt("za", opt("z", NOT, 0, 0), opt("a", 0, 0, 0)), 0);
-        Due.is("NOT behind, found", raisedAt("zaz", opt("za", 0, 0, 0), opt("z", NOT | RELATIVE, 0, 1)), 2);
-        Due.is("NOT before its base", raisedAt("xzab", opt("ab", 0, 0, 0),
-                opt("z", NOT | RELATIVE, -3, 1)), 0);
-        Due.is("NOT before its base, elsewhere", raisedAt("zxab", opt("ab", 0, 0, 0),
-                opt("z", NOT | RELATIVE, -3, 1)), 4);
-    }
-
-    /** The first place that is found is not always the one that lets the rest hold. */
-    private static void choices() {
-        Due.is("the second a", raisedAt("axab", opt("a", 0, 0, 0), opt("b", RELATIVE, 0, 1)), 4);
-        Due.is("the first a", raisedAt("abax", opt("x", 0, 0, 0), opt("a", 0, 0, 0),
-                opt("b", RELATIVE, 0, 1)), 4);
-        Due.is("three", raisedAt("abacabc", opt("a", 0, 0, 0), opt("b", RELATIVE, 0, 1),
-                opt("c", RELATIVE, 0, 1)), 7);
-        Due.is("an a without z behind it", raisedAt("zazaza", opt("aza", 0, 0, 0),
-                opt("za", NOT | RELATIVE, 0, 2)), 4);
-        Due.is("q, then x at last", raisedAt("qzqx", opt("x", 0, 0, 0), opt("q", 0, 0, 0),
-                opt("z", NOT | RELATIVE, 0, 1)), 4);
-        Due.is("no q without z", raisedAt("qzqzx", opt("x", 0, 0, 0), opt("q", 0, 0, 0),
-                opt("z", NOT | RELATIVE, 0, 1)), 0);
-        Due.is("NOT is for the places of the others, too", raisedAt("azab", opt("a", 0, 0, 0),
-                opt("z", NOT | RELATIVE, 0, 1), opt("b", RELATIVE, 0, 1)), 4);
-        Due.is("a place that NOT refuses is none for the next", raisedAt("azb", opt("a", 0, 0, 1),
-                opt("z", NOT | RELATIVE, 0, 1), opt("b", RELATIVE, 0, 0)), 0);
-    }
-
-    private static void bigTexts() {
-        String much = "a".repeat(79);
-        Due.is("at the end", raisedAt(much + "b", opt("a", 0, 0, 0), opt("a", RELATIVE, 0, 0),
-                opt("b", RELATIVE, 0, 0)), 80);
-        Due.is("base 80", raisedAt(much + "b", opt("b", 0, 0, 0), opt("a", RELATIVE, -80, 1)), 80);
-        Due.is("nowhere", raisedAt(much + "a", opt("a", 0, 0, 0), opt("a", RELATIVE, 0, 0),
-                opt("b", RELATIVE, 0, 0)), 0);
-        Due.is("span 80", raisedAt(much + "b", opt("b", 0, 0, 80)), 80);
-        Due.is("span 79", raisedAt(much + "b", opt("b", 0, 0, 79)), 0);
-        Due.is("no span, far below", raisedAt(much + "b", opt("b", 0, -80, 0)), 80);
     }
 
     private static void optionsThatComeLater() {

@@ -1,8 +1,8 @@
-/** Promise 15: alert. */
+/** Promise 15: alert. AlertsTest has how many are kept. */
 public final class Promise15Test {
     public static void main(String[] args) {
         whatAnAlertTells();
-        theLatestAreKept();
+        whatIsAsked();
         Due.end();
     }
 
@@ -28,22 +28,18 @@ public final class Promise15Test {
         Due.is("it outlives its flow", Talk.alertOf(x, 0), "1 1006 1 3");
     }
 
-    private static void theLatestAreKept() {
+    /** "NONE if it is not kept or no such w", for each number of alerts up to those kept. */
+    private static void whatIsAsked() {
         StreamWatch x = new StreamWatch(0);
-        for (int r = 0; r < 5; r++) {
-            x.rule(2, 0);
-            Talk.option(x, "a", 0, r, 0);
-        }
-        for (int i = 0; i < 12; i++) {
-            Talk.send(x, i % 8, 0, 0, Talk.SYN, "aaaaa");
-            int kept = Math.min(24, 5 * i + 5);
-            for (int k = 0; k < kept; k++) {
-                int number = 5 * i + 4 - k;
-                int port = 1000 + number / 5 % 8;
-                Due.is("alert " + k, Talk.alertOf(x, k),
-                        number % 5 + " " + port + " 0 " + (number % 5 + 1));
-            }
-            Due.is("behind the last kept", Talk.alertOf(x, kept), "-1 -1 -1 -1");
+        x.rule(2, 0);
+        Talk.option(x, "a", 0, 0, 0);
+        for (int i = 1; i <= 24; i++) {
+            Due.is("alert", Talk.send(x, i % 8, 0, 0, Talk.SYN, "a"), 1);
+            Due.is("the first", x.alert(i - 1, 1), 1001);
+            Due.is("before the first", x.alert(i, 1), -1);
+            Due.is("w 3", x.alert(i - 1, 3), 1);
+            Due.is("w 4", x.alert(i - 1, 4), -1);
+            Due.is("w -1", x.alert(i - 1, -1), -1);
         }
     }
 }

@@ -28,6 +28,13 @@ final class Talk {
         return x.watch();
     }
 
+    /** All of a text on stream 0 of client 0, in packets of eight bytes. */
+    static void sendAll(StreamWatch x, int sequence, String text) {
+        for (int i = 0; i < text.length(); i += 8) {
+            send(x, 0, 0, sequence + i, ACK, text.substring(i, Math.min(i + 8, text.length())));
+        }
+    }
+
     /** A watch with a flow of client 0, whose stream 0 has NEXT = 1. */
     static StreamWatch opened(int last) {
         StreamWatch x = new StreamWatch(last);
@@ -69,7 +76,8 @@ final class Talk {
 
     static String textOf(StreamWatch x, int f, int way) {
         StringBuilder all = new StringBuilder();
-        for (int k = 0; k < x.stream(f, way, 0); k++) {
+        int size = x.stream(f, way, 0);
+        for (int k = 0; k < size; k++) {
             all.append((char) x.text(f, way, k));
         }
         return all.toString();
@@ -77,7 +85,8 @@ final class Talk {
 
     static String wireOf(StreamWatch x) {
         StringBuilder all = new StringBuilder();
-        for (int k = 0; k < x.wire(-1); k++) {
+        int size = x.wire(-1);
+        for (int k = 0; k < size; k++) {
             all.append(x.wire(k)).append(' ');
         }
         return all.toString().trim();
