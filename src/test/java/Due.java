@@ -1,5 +1,9 @@
 /** Compares answers with those that are due, and ends a test. */
 final class Due {
+    /** Answers of caught that no call of the document gives. */
+    static final int ARGUMENT = -1001;
+    static final int STATE = -1002;
+
     private static int wrong = 0;
 
     private Due() {
@@ -29,6 +33,17 @@ final class Due {
     /** A call that may throw. */
     interface Call {
         int run();
+    }
+
+    /** What the call answers, or which of the document's two exceptions it throws. */
+    static int caught(Call call) {
+        try {
+            return call.run();
+        } catch (IllegalArgumentException e) {
+            return ARGUMENT;
+        } catch (IllegalStateException e) {
+            return STATE;
+        }
     }
 
     static void isThrown(String what, Class<? extends RuntimeException> want, Call call) {

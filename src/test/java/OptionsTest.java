@@ -14,6 +14,7 @@ public final class OptionsTest {
         everyLeastAndSpanRelative();
         spanZero();
         baseWithoutOneBefore();
+        basesOfOtherRules();
         placesNeedNotRise();
         nots();
         choices();
@@ -214,6 +215,18 @@ public final class OptionsTest {
                 opt("x", NOT | RELATIVE, 0, 1)), 0);
         Due.is("NOT behind NOT, elsewhere", raisedAtEnd("abyx", opt("ab", 0, 0, 0),
                 opt("q", NOT, 0, 0), opt("x", NOT | RELATIVE, 0, 1)), 4);
+    }
+
+    /** What one rule has found is no base for the next one, nor for the same one a byte later. */
+    private static void basesOfOtherRules() {
+        StreamWatch x = Talk.opened(0);
+        addRule(x, opt("b", 0, 0, 0));
+        addRule(x, opt("a", RELATIVE, -2, 1));
+        addRule(x, opt("b", 0, 0, 0), opt("z", 0, 0, 0));
+        addRule(x, opt("a", NOT | RELATIVE, -2, 1), opt("b", 0, 0, 0));
+        Due.is("rules 0 and 3", Talk.send(x, 0, 0, 1, Talk.ACK, "ab"), 2);
+        Due.is("rule 3", x.alert(0, 0), 3);
+        Due.is("no other rule", Talk.send(x, 0, 0, 3, Talk.ACK, "cab"), 0);
     }
 
     /** "(taken in order for their bases; the places need not rise)" */

@@ -29,19 +29,9 @@ final class Pair {
         return calls <= LIMIT;
     }
 
-    private static int caught(Due.Call call) {
-        try {
-            return call.run();
-        } catch (IllegalArgumentException e) {
-            return -1001;
-        } catch (IllegalStateException e) {
-            return -1002;
-        }
-    }
-
     private void compare(String what, Due.Call one, Due.Call other) {
         if (isLeft()) {
-            Due.is(name + what, caught(one), caught(other));
+            Due.is(name + what, Due.caught(one), Due.caught(other));
         }
     }
 

@@ -34,7 +34,10 @@ public final class Promise06Test {
         for (int ipWords = 5; ipWords <= 7; ipWords++) {
             for (int tcpWords = 5; tcpWords <= 8; tcpWords++) {
                 StreamWatch x = new StreamWatch(0);
-                Talk.write(x, ipWords, tcpWords, 8, Talk.SYN, "abc", "");
+                Raw raw = new Raw(ipWords, tcpWords, "abc", "");
+                raw.setTwo(10, 0).setTcp(16, 0).setTcp(17, 0).putOn(x);
+                Due.is("watch()", x.watch(), -5);
+                Due.is("seal()", x.seal(), true);
                 Due.is("watch()", x.watch(), 0);
                 Due.is("text", Talk.textOf(x, 0, 0), "abc");
             }
@@ -79,7 +82,7 @@ public final class Promise06Test {
         refused("TCP header of 9 words", altered(32, 0x50 ^ 0x90));
         refused("TCP header beyond LENGTH", altered(32, 0x50 ^ 0x80));
         StreamWatch x = new StreamWatch(0);
-        Talk.write(x, 5, 5, 8, Talk.SYN, "0123456789".repeat(6), "");
+        Raw.plain("0123456789".repeat(6)).putOn(x);
         x.alter(32, 0x50 ^ 0x90);
         refused("TCP header of 9 words that is there", x);
         x.alter(32, 0x90 ^ 0xF0);

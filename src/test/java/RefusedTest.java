@@ -83,22 +83,12 @@ public final class RefusedTest {
         return all.toString();
     }
 
-    private static int caught(Due.Call call) {
-        try {
-            return call.run();
-        } catch (IllegalArgumentException e) {
-            return -1001;
-        } catch (IllegalStateException e) {
-            return -1002;
-        }
-    }
-
     /** What comes of calls that show rules, places, order, held bytes and policy of the past. */
     private static String future(StreamWatch x) {
         StringBuilder all = new StringBuilder();
-        all.append(caught(() -> Talk.option(x, "c", 0, 0, 0))).append(' ');
-        all.append(caught(() -> x.rule(2, 0))).append(' ');
-        all.append(caught(() -> Talk.option(x, "e", 0, 0, 0))).append(' ');
+        all.append(Due.caught(() -> Talk.option(x, "c", 0, 0, 0))).append(' ');
+        all.append(Due.caught(() -> x.rule(2, 0))).append(' ');
+        all.append(Due.caught(() -> Talk.option(x, "e", 0, 0, 0))).append(' ');
         for (int c = 0; c < 4; c++) {
             all.append(Talk.send(x, c, 0, 2, ACK, "dEFGHI")).append(' ');
             all.append(Talk.send(x, c, 0, 1, ACK, "c")).append(' ');
@@ -138,7 +128,7 @@ public final class RefusedTest {
             {0, MIN, 0}, {0, MAX, 0}, {0, 0, -1}, {0, 0, 9}, {0, 0, MIN}, {0, 0, MAX}};
         for (int[] a : wrong) {
             isRefused("craft(" + a[0] + ", " + a[1] + ", .., " + a[2] + ", ..)",
-                    x -> caught(() -> x.craft(a[0], a[1], 7, SYN, a[2], -1)), -1001);
+                    x -> Due.caught(() -> x.craft(a[0], a[1], 7, SYN, a[2], -1)), Due.ARGUMENT);
         }
     }
 
@@ -225,10 +215,11 @@ public final class RefusedTest {
     private static void rules() {
         int[][] wrong = {{-1, 0}, {3, 0}, {MIN, 0}, {MAX, 0}, {0, -1}, {0, 65536}, {0, MIN}, {0, MAX}};
         for (int[] a : wrong) {
-            isRefused("rule(" + a[0] + ", " + a[1] + ")", x -> caught(() -> x.rule(a[0], a[1])), -1001);
+            isRefused("rule(" + a[0] + ", " + a[1] + ")",
+                    x -> Due.caught(() -> x.rule(a[0], a[1])), Due.ARGUMENT);
         }
         for (int past = 3; past < PASTS; past++) {
-            isSame("a seventh rule", x -> caught(() -> x.rule(2, 0)), -1002, past);
+            isSame("a seventh rule", x -> Due.caught(() -> x.rule(2, 0)), Due.STATE, past);
         }
     }
 
@@ -239,11 +230,11 @@ public final class RefusedTest {
             {1, 0, 0, MAX}};
         for (int[] a : wrong) {
             isRefused("option(" + a[0] + ", .., " + a[1] + ", " + a[2] + ", " + a[3] + ")",
-                    x -> caught(() -> x.option(a[0], 'z', a[1], a[2], a[3])), -1001);
+                    x -> Due.caught(() -> x.option(a[0], 'z', a[1], a[2], a[3])), Due.ARGUMENT);
         }
-        isSame("an option without a rule", x -> caught(() -> x.option(1, 'z', 0, 0, 0)), -1002, 0);
+        isSame("an option without a rule", x -> Due.caught(() -> x.option(1, 'z', 0, 0, 0)), Due.STATE, 0);
         for (int past = 3; past < PASTS; past++) {
-            isSame("a fourth option", x -> caught(() -> x.option(1, 'z', 2, 0, 0)), -1002, past);
+            isSame("a fourth option", x -> Due.caught(() -> x.option(1, 'z', 2, 0, 0)), Due.STATE, past);
         }
     }
 

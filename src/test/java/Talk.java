@@ -46,34 +46,6 @@ final class Talk {
         return x.option(content.length(), bytes(content), marks, least, span);
     }
 
-    static void putAll(StreamWatch x, String characters) {
-        for (int i = 0; i < characters.length(); i++) {
-            Due.is("put", x.put(1, characters.charAt(i)), true);
-        }
-    }
-
-    /** A whole packet with headers of so many words, sealed; what is behind it does not count. */
-    static void write(StreamWatch x, int ipWords, int tcpWords, int sequence, int flags,
-            String data, String behind) {
-        int length = 4 * ipWords + 4 * tcpWords + data.length();
-        x.wipe();
-        x.put(4, (64L + ipWords) << 24 | length);
-        x.put(8, 0x1234_4000_4006_0000L);
-        x.put(8, (long) CLIENT_HOST << 32 | SERVER_HOST);
-        for (int i = 5; i < ipWords; i++) {
-            x.put(4, 0x01020304);
-        }
-        x.put(8, 1000L << 48 | 80L << 32 | (sequence & 0xFFFFFFFFL));
-        x.put(8, 0x0000_0007_0000_0100L | (long) tcpWords << 28 | (long) flags << 16);
-        x.put(4, 0x0000_0009);
-        for (int i = 5; i < tcpWords; i++) {
-            x.put(4, 0x05060708);
-        }
-        putAll(x, data);
-        putAll(x, behind);
-        Due.is("seal", x.seal(), true);
-    }
-
     static String textOf(StreamWatch x, int f, int way) {
         StringBuilder all = new StringBuilder();
         int size = x.stream(f, way, 0);
