@@ -15,6 +15,7 @@ public final class OptionsTest {
         spanZero();
         baseWithoutOneBefore();
         basesOfOtherRules();
+        placesOfOtherTexts();
         placesNeedNotRise();
         nots();
         choices();
@@ -227,6 +228,18 @@ public final class OptionsTest {
         Due.is("rules 0 and 3", Talk.send(x, 0, 0, 1, Talk.ACK, "ab"), 2);
         Due.is("rule 3", x.alert(0, 0), 3);
         Due.is("no other rule", Talk.send(x, 0, 0, 3, Talk.ACK, "cab"), 0);
+    }
+
+    /** What was found in a longer text is not found just behind the end of a shorter one. */
+    private static void placesOfOtherTexts() {
+        for (int size = 1; size <= 6; size++) {
+            StreamWatch x = Talk.opened(0);
+            addRule(x, opt("x", NOT, 0, 0), opt("z", 0, 0, 0));
+            String dashes = "-".repeat(size);
+            Due.is("the longer text", Talk.send(x, 0, 0, 1, Talk.ACK, dashes + "x"), 0);
+            Due.is("the shorter text", Talk.send(x, 1, 0, 0, Talk.SYN, dashes.substring(1) + "z"), 1);
+            Due.is("alert", Talk.alertOf(x, 0), "0 1001 0 " + size);
+        }
     }
 
     /** "(taken in order for their bases; the places need not rise)" */
