@@ -131,10 +131,10 @@ public final class StreamWatch {
         if (span < 0 || span > TEXT_LIMIT) {
             throw new IllegalArgumentException("span is not 0 .. 80");
         }
-        if (ruleCount == 0) {
+        Rule latest = ruleAt(ruleCount - 1);
+        if (latest == null) {
             throw new IllegalStateException("there is no rule");
         }
-        Rule latest = rules[ruleCount - 1];
         if (latest.size() >= OPTION_LIMIT) {
             throw new IllegalStateException("the rule has 3 options");
         }
@@ -251,12 +251,20 @@ public final class StreamWatch {
 
     private void raiseAlerts(Flow heard, Stream stream, int way) {
         for (int r = 0; r < ruleCount; r++) {
-            boolean mayRaise = rules[r].isFor(way, heard.serverPort) && !stream.hasRaised(r);
-            if (mayRaise && search.holds(rules[r], stream)) {
+            Rule asked = ruleAt(r);
+            if (asked == null || !asked.isFor(way, heard.serverPort) || stream.hasRaised(r)) {
+                continue;
+            }
+            if (search.holds(asked, stream)) {
                 stream.setRaised(r);
                 log.add(r, heard.clientPort, way, stream.size());
             }
         }
+    }
+
+    /** Rule r, null if there is none. */
+    private Rule ruleAt(int r) {
+        return r >= 0 && r < ruleCount ? rules[r] : null;
     }
 
     private Stream streamAt(int f, int way) {
@@ -454,8 +462,9 @@ public final class StreamWatch {
         /** The flow that the packet belongs to, null if there is none. */
         Flow of(Packet packet) {
             for (int f = 0; f < PLACES; f++) {
-                if (places[f].isLive() && places[f].wayOf(packet) != NONE) {
-                    return places[f];
+                Flow asked = at(f);
+                if (asked != null && asked.wayOf(packet) != NONE) {
+                    return asked;
                 }
             }
             return null;
@@ -480,7 +489,8 @@ public final class StreamWatch {
         int heardAfter(Flow asked) {
             int later = 0;
             for (int f = 0; f < PLACES; f++) {
-                if (places[f].isLive() && places[f].heardAt > asked.heardAt) {
+                Flow other = at(f);
+                if (other != null && other.heardAt > asked.heardAt) {
                     later++;
                 }
             }
@@ -824,7 +834,7 @@ public final class StreamWatch {
 
         void settle(int end) {
             int last = NONE;
-            top = Math.min(end, TEXT_LIMIT);
+            top = end <= TEXT_LIMIT ? end : TEXT_LIMIT;
             for (int place = 0; place <= top; place++) {
                 if (marked[place]) {
                     last = place;
