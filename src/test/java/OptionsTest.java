@@ -230,15 +230,18 @@ public final class OptionsTest {
         Due.is("no other rule", Talk.send(x, 0, 0, 3, Talk.ACK, "cab"), 0);
     }
 
-    /** What was found in a longer text is not found just behind the end of a shorter one. */
+    /** What was found in a longer text is not found behind the end of a shorter one. */
     private static void placesOfOtherTexts() {
-        for (int size = 1; size <= 6; size++) {
-            StreamWatch x = Talk.opened(0);
-            addRule(x, opt("x", NOT, 0, 0), opt("z", 0, 0, 0));
-            String dashes = "-".repeat(size);
-            Due.is("the longer text", Talk.send(x, 0, 0, 1, Talk.ACK, dashes + "x"), 0);
-            Due.is("the shorter text", Talk.send(x, 1, 0, 0, Talk.SYN, dashes.substring(1) + "z"), 1);
-            Due.is("alert", Talk.alertOf(x, 0), "0 1001 0 " + size);
+        for (int longer = 2; longer <= 7; longer++) {
+            for (int shorter = 1; shorter < longer; shorter++) {
+                StreamWatch x = Talk.opened(0);
+                addRule(x, opt("x", NOT, 0, 0), opt("z", 0, 0, 0));
+                String one = "-".repeat(longer - 1) + "x";
+                String other = "-".repeat(shorter - 1) + "z";
+                Due.is("the longer text", Talk.send(x, 0, 0, 1, Talk.ACK, one), 0);
+                Due.is("the shorter text", Talk.send(x, 1, 0, 0, Talk.SYN, other), 1);
+                Due.is("alert", Talk.alertOf(x, 0), "0 1001 0 " + shorter);
+            }
         }
     }
 
