@@ -69,16 +69,32 @@ public final class FlowsTest {
         Due.is("flows", ports(x), "1000 1001 1002 1003");
     }
 
-    /** A host or a port that is another: it is not of the flow. */
+    /** The SYN of client 0 to the server, or one from the server to it. */
+    private static Raw between(int way) {
+        Raw there = Raw.plain("");
+        return way == 0 ? there
+                : there.setTwo(14, 0x101).setTwo(18, 1).setTwo(20, 80).setTwo(22, 1000).sumUp();
+    }
+
+    /** A host or a port that is another by any one bit, more or less: it is not of the flow. */
     private static void bothEndsCount() {
-        int[] places = {12, 13, 14, 15, 16, 17, 18, 19, 20, 21, 22, 23};
-        for (int k : places) {
-            StreamWatch x = Talk.opened(0);
-            Due.is("the same ends", Raw.plain("").setTcp(13, ACK).sumUp().sendTo(x), 0);
-            Due.is("byte " + k, Raw.plain("").setTcp(13, ACK).flip(k, 1).sumUp().sendTo(x), -10);
-            Due.is("byte " + k + ", SYN", Raw.plain("").flip(k, 1).sumUp().sendTo(x), 0);
-            Due.is("another flow", x.flow(1, 4), 0);
+        for (int bit = 0; bit < 12 * 8; bit++) {
+            int k = 12 + bit / 8;
+            int other = 1 << bit % 8;
+            for (int way = 0; way < 2; way++) {
+                StreamWatch x = Talk.opened(0);
+                String name = "way " + way + ", byte " + k + " ^ " + other;
+                Due.is("the same ends", between(way).setTcp(13, ACK).sumUp().sendTo(x), 0);
+                Raw changed = between(way).flip(k, other);
+                Due.is(name, changed.setTcp(13, ACK).sumUp().sendTo(x), -10);
+                Due.is(name + ", SYN", changed.setTcp(13, SYN).sumUp().sendTo(x), 0);
+                Due.is(name + ", another flow", x.flow(1, 4), 0);
+            }
         }
+        portsOrHostsAlone();
+    }
+
+    private static void portsOrHostsAlone() {
         StreamWatch x = Talk.opened(0);
         Raw ports = Raw.plain("").setTcp(13, ACK).setTwo(20, 80).setTwo(22, 1000).sumUp();
         Due.is("ports the other way alone", ports.sendTo(x), -10);
